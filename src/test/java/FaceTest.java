@@ -70,8 +70,8 @@ public final class FaceTest {
         c.due("how many constructors", 1, () -> made.length);
         c.due("its parameters", 0, () -> made[0].getParameterCount());
         c.due("it is public", 1, () -> Modifier.isPublic(made[0].getModifiers()) ? 1 : 0);
-        int class_ = RegisterRows.class.getModifiers();
-        c.due("the class is public and final", 1, () -> Modifier.isPublic(class_) && Modifier.isFinal(class_) ? 1 : 0);
+        int modifiers = RegisterRows.class.getModifiers();
+        c.due("the class is public and final", 1, () -> Modifier.isPublic(modifiers) && Modifier.isFinal(modifiers) ? 1 : 0);
         c.due("NONE", -1, () -> RegisterRows.NONE);
         c.end();
     }
