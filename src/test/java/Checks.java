@@ -46,11 +46,34 @@ final class Checks {
         }
     }
 
+    /** The five parts of GLUE n. */
+    void parts(String call, RegisterRows x, int n, long... want) {
+        for (int what = 0; what < 5; what++) {
+            int w = what;
+            due(call + ": part(" + n + ", " + w + ")", want[w], () -> x.part(n, w));
+        }
+    }
+
+    /** glue() answers nothing; as a call with an answer it can be held to end without an exception. */
+    static long glue(RegisterRows x, long natural, long stretch, int by, long shrink, int by2) {
+        x.glue(natural, stretch, by, shrink, by2);
+        return 0;
+    }
+
+    static void putGlue(RegisterRows x, int n, long natural, long stretch, int by, long shrink, int by2) {
+        x.glue(natural, stretch, by, shrink, by2);
+        x.set(2, n, 0, false);
+    }
+
     /** The signs that are told of a REGISTER, up to the first NONE. */
     static String shown(RegisterRows x, int kind, int n) {
         StringBuilder text = new StringBuilder();
-        for (int i = 0; i < 200 && x.shown(kind, n, i) != RegisterRows.NONE; i++) {
-            text.append((char) x.shown(kind, n, i));
+        for (int i = 0; i < 200; i++) {
+            int sign = x.shown(kind, n, i);
+            if (sign == RegisterRows.NONE) {
+                break;
+            }
+            text.append((char) sign);
         }
         return text.toString();
     }
@@ -58,8 +81,18 @@ final class Checks {
     void dueText(String call, String want, String got) {
         many++;
         if (!want.equals(got)) {
-            fault(call + " is \"" + got + "\", due is \"" + want + "\"");
+            int same = 0;
+            while (same < want.length() && same < got.length() && want.charAt(same) == got.charAt(same)) {
+                same++;
+            }
+            int from = Math.max(0, same - 60);
+            fault(call + " is, from sign " + from + " on, \"" + shortened(got, from) + "\", due is \""
+                    + shortened(want, from) + "\"");
         }
+    }
+
+    private static String shortened(String text, int from) {
+        return text.substring(from, Math.min(text.length(), from + 120));
     }
 
     void end() {

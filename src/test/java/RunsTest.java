@@ -1,7 +1,9 @@
-/** Runs of 512 calls, the same each time, of which each answer and the state behind it are held against Model's. */
+/** Runs of 512 calls, the same each time, of which each answer is held against Model's; the last ones only read. */
 public final class RunsTest {
-    private static final int RUNS = 600;
+    private static final int RUNS = 3000;
     private static final int CALLS = 512;
+    private static final int CALLS_AT_THE_END = 112;
+    private static final int CALLS_OF_A_READING = 7;
     private static final int[] EDGES = {0, 1, -1, 2, 3, 4, 5, 9, 10, 14, 15, 19, 20, 31, 32, 60, 199, 200, 255, 256, 999,
         1000, 65535, 65536, 1073741823, 1073741824, -1073741823, -1073741824, Integer.MAX_VALUE, Integer.MIN_VALUE,
         -Integer.MAX_VALUE};
@@ -9,6 +11,7 @@ public final class RunsTest {
         4294967296L, 1L << 40, Long.MAX_VALUE, Long.MIN_VALUE, Long.MIN_VALUE + 1};
 
     private long seed;
+    private int calls = 0;
     private final Checks checks;
 
     private RunsTest(int run, Checks checks) {
@@ -61,11 +64,15 @@ public final class RunsTest {
         Model m = new Model();
         int registers = 1 + below(32);
         int style = run % 4;
-        for (int i = 0; i < CALLS; i++) {
-            step("run " + run + ", call " + i, x, m, registers, style);
-            if (i % 64 == 63) {
-                compare("run " + run + " behind call " + i, x, m);
-            }
+        while (calls < CALLS - CALLS_AT_THE_END) {
+            step("run " + run + ", call " + calls, x, m, registers, style);
+        }
+        while (calls + CALLS_OF_A_READING <= CALLS) {
+            read("run " + run + ", call " + calls, x, m, below(5), below(registers));
+        }
+        while (calls < CALLS) {
+            int n = below(registers);
+            same("run " + run + ", call " + calls, () -> x.get(0, n), () -> m.get(0, n));
         }
     }
 
@@ -87,7 +94,7 @@ public final class RunsTest {
                 long d = anyLength();
                 int by = odd(below(4));
                 int by2 = odd(below(4));
-                same(where + " glue", () -> glue(x, a, b, by, d, by2), () -> glue(m, a, b, by, d, by2));
+                same(where + " glue", () -> Checks.glue(x, a, b, by, d, by2), () -> glue(m, a, b, by, d, by2));
                 break;
             }
             case 2:
@@ -175,11 +182,7 @@ public final class RunsTest {
         same(where + " told(" + what + ", " + n + ")", () -> x.told(what, n), () -> m.told(what, n));
         same(where + " restored(" + i + ", " + what + ")", () -> x.restored(i, what), () -> m.restored(i, what));
         same(where + " behind(" + i + ")", () -> x.behind(i), () -> m.behind(i));
-    }
-
-    private static long glue(RegisterRows x, long a, long b, int by, long d, int by2) {
-        x.glue(a, b, by, d, by2);
-        return 0;
+        same(where + " shown(" + kind + ", " + n + ", " + i + ")", () -> x.shown(kind, n, i), () -> m.shown(kind, n, i));
     }
 
     private static long glue(Model m, long a, long b, int by, long d, int by2) {
@@ -187,35 +190,9 @@ public final class RunsTest {
         return 0;
     }
 
-    private void compare(String where, RegisterRows x, Model m) {
-        same(where + " DEPTH", () -> x.told(0, 0), () -> m.told(0, 0));
-        same(where + " KEPT", () -> x.told(1, 0), () -> m.told(1, 0));
-        for (int i = 0; i <= 61; i++) {
-            int j = i;
-            same(where + " behind(" + j + ")", () -> x.behind(j), () -> m.behind(j));
-            same(where + " restored(" + j + ")", () -> x.restored(j, j % 3), () -> m.restored(j, j % 3));
-        }
-        for (int k = 0; k < 160; k++) {
-            int kind = k / 32;
-            int n = k % 32;
-            same(where + " get(" + kind + ", " + n + ")", () -> x.get(kind, n), () -> m.get(kind, n));
-            same(where + " LEVEL", () -> x.told(10 + kind, n), () -> m.told(10 + kind, n));
-            for (int i = 0; kind == 2 && i < 5; i++) {
-                int what = i;
-                same(where + " part", () -> x.part(n, what), () -> m.part(n, what));
-            }
-            int i = 0;
-            do {
-                int at = i;
-                same(where + " shown(" + kind + ", " + n + ", " + at + ")",
-                        () -> x.shown(kind, n, at), () -> m.shown(kind, n, at));
-                i++;
-            } while (i < 70 && m.shown(kind, n, i - 1) >= 0);
-        }
-    }
-
     /** Where the document's exception is due, the class must throw the very same. */
     private void same(String call, Checks.Call of, Checks.Call due) {
+        calls++;
         long want;
         try {
             want = due.answer();
