@@ -2,9 +2,9 @@ import java.util.EnumMap;
 import java.util.Map;
 
 /**
- * Calls that change nothing, on a new, a busy and a full object: those that throw (which exception, which comes
- * first where several fit, the first value that is refused at both ends), OVERFLOW, NONE, and those that only tell.
- * Behind each the object is held whole against one that has not had the call.
+ * Calls that change nothing, on a new object and on such as have been used: those that throw (which exception, which
+ * comes first where several fit, the first value that is refused at both ends), OVERFLOW, NONE, and those that only
+ * tell. Behind each the object is held whole against one that has not had the call.
  */
 public final class RefusedTest {
     private interface Use {
@@ -235,14 +235,17 @@ public final class RefusedTest {
         for (int t : NO_TOKENS) {
             refused("after(" + t + ")", WRONG, x -> x.after(t));
         }
-        refused(States.NEW, "after(0)", STATE, x -> x.after(0));
-        refused(States.NEW, "after(255)", STATE, x -> x.after(255));
+        for (States outside : new States[] {States.NEW, States.ENDED}) {
+            refused(outside, "after(0)", STATE, x -> x.after(0));
+            refused(outside, "after(255)", STATE, x -> x.after(255));
+        }
         refused(States.FULL, "after(0)", FULL, x -> x.after(0));
         refused(States.FULL, "after(255)", FULL, x -> x.after(255));
     }
 
     private static void noEnd() {
         refused(States.NEW, "end()", STATE, RegisterRows::end);
+        refused(States.ENDED, "end()", STATE, RegisterRows::end);
     }
 
     private static void noRestored() {
@@ -253,6 +256,7 @@ public final class RefusedTest {
             refused("restored(0, " + what + ")", NO_SUCH, x -> x.restored(0, what));
         }
         refused(States.NEW, "restored(0, 0)", NO_SUCH, x -> x.restored(0, 0));
+        refused(States.ENDED, "restored(5, 2) of five", NO_SUCH, x -> x.restored(5, 2));
         refused(States.BUSY, "restored(6, 2) of six", NO_SUCH, x -> x.restored(6, 2));
         refused(States.FULL, "restored(1, 2) of one", NO_SUCH, x -> x.restored(1, 2));
     }

@@ -5,6 +5,20 @@ enum States {
         void fill(RegisterRows x) {
         }
     },
+    /** Outside of all GROUPS again, with what the latest has left. */
+    ENDED {
+        @Override
+        void fill(RegisterRows x) {
+            x.group();
+            setEach(x, 0, 1);
+            x.set(0, 0, 5, true);
+            x.after(0);
+            x.after(255);
+            x.end();
+            x.glue(-1, 2, 3, 4, 1);
+            x.token(0);
+        }
+    },
     /** Two GROUPS with something KEPT and told behind each, one that has ended, and a GLUE and a ROW that wait. */
     BUSY {
         @Override
