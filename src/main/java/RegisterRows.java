@@ -369,9 +369,12 @@ public final class RegisterRows {
     }
 
     private void giveBackKept(int first) {
-        for (int k = pile.many - 1; k >= first && k >= 0; k--) {
+        for (int k = pile.many - 1; k >= first && k >= 0 && k < MOST_KEPT; k--) {
             int kind = pile.kinds[k];
             int n = pile.registers[k];
+            if (!within(kind, COUNTS, BOXES) || !within(n, 0, REGISTERS - 1)) {
+                continue;
+            }
             int place = Bank.place(kind, n);
             boolean again = bank.levels[place] != 0;
             if (again) {
@@ -549,10 +552,16 @@ public final class RegisterRows {
             }
         }
 
-        void copyTokens(Groups groups) {
-            for (int k = groups.firstToken(); k >= 0 && k < groups.many && manyTokens < MOST_AFTER; k++) {
-                tokens[manyTokens] = groups.tokens[k];
+        void appendToken(int t) {
+            if (manyTokens >= 0 && manyTokens < MOST_AFTER) {
+                tokens[manyTokens] = t;
                 manyTokens++;
+            }
+        }
+
+        void copyTokens(Groups groups) {
+            for (int k = groups.firstToken(); k >= 0 && k < groups.many && k < MOST_AFTER; k++) {
+                appendToken(groups.tokens[k]);
             }
         }
     }
